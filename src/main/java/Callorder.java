@@ -304,7 +304,8 @@ public final class Callorder {
     public int why(int thing, int what) throws IndexOutOfBoundsException, IllegalArgumentException {
         needThing(thing);
         needWhat(what, 2);
-        return fastWays.reasonOf(thing, what);
+        fastWays.tell(thing);
+        return fastWays.reasonPart(what);
     }
 
     public boolean promise(int which) throws IllegalArgumentException {
@@ -481,7 +482,7 @@ public final class Callorder {
         for (int thing = 0; thing < history.things; thing++) {
             sum = add(sum, fastWays.tell(thing));
             for (int what = 0; what <= 2; what++) {
-                sum = add(sum, fastWays.reasonOf(thing, what));
+                sum = add(sum, fastWays.reasonPart(what));
             }
         }
         return sum;
@@ -773,7 +774,8 @@ public final class Callorder {
         static final int COUNTER = 4;
         static final int LOCK = 5;
         static final int CELL = 6;
-        private static final int ANSWER_BITS = 7;
+        static final int ANSWER_BITS = 7;
+        static final int ANSWER_MASK = 127;
         private static final int VALUE_BITS = 4;
         private static final int MAX_VALUE_BITS = 15;
         /** Room for 12 VALUES, which 9 PUTS can become, of which each third one comes TWICE; ANSWERS go beside. */
@@ -906,7 +908,7 @@ public final class Callorder {
         }
 
         static int answerOf(long told) {
-            return (int) (told & (1 << ANSWER_BITS) - 1);
+            return (int) told & ANSWER_MASK;
         }
 
         static long stateOf(long told) {
@@ -1312,10 +1314,10 @@ public final class Callorder {
 
         /** The joined STATE behind a CALL that did this; IMPOSSIBLE, if that is not the ANSWER that it told. */
         private long moveOn(int call, long state, long told) {
-            if (wanted[call] != ANY && wanted[call] != Kinds.answerOf(told)) {
+            if (wanted[call] != ANY && wanted[call] != (told & Kinds.ANSWER_MASK)) {
                 return IMPOSSIBLE;
             }
-            return state & ~(mask[call] << shift[call]) | Kinds.stateOf(told) << shift[call];
+            return state & ~(mask[call] << shift[call]) | told >> Kinds.ANSWER_BITS << shift[call];
         }
 
         private void keep(int slot, int placed, long state, int count) {
@@ -1588,8 +1590,9 @@ public final class Callorder {
             return !isThere ? NONE : reason == 0 ? 1 : 0;
         }
 
-        int reasonOf(int thing, int what) {
-            if (tell(thing) != 0) {
+        /** A part of the reason why the THING asked for last does not FIT; NONE, if there is none. */
+        int reasonPart(int what) {
+            if (!isThere || reason == 0) {
                 return NONE;
             }
             return what == 0 ? reason : what == 1 ? firstValue : secondValue;
