@@ -1271,7 +1271,7 @@ public final class Callorder {
                 if (isNext(call, placed)) {
                     long next = moveOn(call, state, Kinds.act(kinds[call], history.ops[call],
                             history.values[call], history.threads[call], ownState(call, state)));
-                    if (next != IMPOSSIBLE && leads(placed | 1 << call, next, depth + 1)) {
+                    if (next != IMPOSSIBLE && leads(placed | (1 << call), next, depth + 1)) {
                         row[depth] = call;
                         return true;
                     }
@@ -1295,7 +1295,7 @@ public final class Callorder {
                     long next = moveOn(call, state, Kinds.act(kinds[call], history.ops[call],
                             history.values[call], history.threads[call], ownState(call, state)));
                     if (next != IMPOSSIBLE) {
-                        sum += countFrom(placed | 1 << call, next, depth + 1);
+                        sum += countFrom(placed | (1 << call), next, depth + 1);
                     }
                 }
             }
@@ -1304,12 +1304,12 @@ public final class Callorder {
         }
 
         private boolean isNext(int call, int placed) {
-            return (members & ~placed & 1 << call) != 0 && (before[call] & ~placed) == 0;
+            return (members & ~placed & (1 << call)) != 0 && (before[call] & ~placed) == 0;
         }
 
         /** The STATE of the THING of a CALL, out of the joined STATE. */
         private long ownState(int call, long state) {
-            return state >> shift[call] & mask[call];
+            return (state >> shift[call]) & mask[call];
         }
 
         /** The joined STATE behind a CALL that did this; IMPOSSIBLE, if that is not the ANSWER that it told. */
@@ -1317,24 +1317,24 @@ public final class Callorder {
             if (wanted[call] != ANY && wanted[call] != (told & Kinds.ANSWER_MASK)) {
                 return IMPOSSIBLE;
             }
-            return state & ~(mask[call] << shift[call]) | told >> Kinds.ANSWER_BITS << shift[call];
+            return (state & ~(mask[call] << shift[call])) | ((told >> Kinds.ANSWER_BITS) << shift[call]);
         }
 
         private void keep(int slot, int placed, long state, int count) {
-            keys[slot] = state << MAX_CALLS | placed;
+            keys[slot] = (state << MAX_CALLS) | placed;
             stamps[slot] = stamp;
             counts[slot] = count;
         }
 
         /** Where the table has a beginning of ORDERS, or is free for it. */
         private int slotOf(int placed, long state) {
-            long key = state << MAX_CALLS | placed;
-            int slot = (int) (key * MIX >>> 64 - ROOM_BITS);
+            long key = (state << MAX_CALLS) | placed;
+            int slot = (int) ((key * MIX) >>> (64 - ROOM_BITS));
             for (int tries = 0; tries < ROOM; tries++) {
                 if (stamps[slot] != stamp || keys[slot] == key) {
                     return slot;
                 }
-                slot = slot + 1 & ROOM - 1;
+                slot = (slot + 1) & (ROOM - 1);
             }
             return slot;
         }
@@ -1928,7 +1928,7 @@ public final class Callorder {
         private static final int MAX_ENDS = 4096;
         private static final int MAX_MOVES = 9;
 
-        private final Program program;
+        final Program program;
         private int version;
         private final boolean[] isKnown = new boolean[MODELS];
         private final long[] keys = new long[MAX_PLACES];
@@ -2045,13 +2045,13 @@ public final class Callorder {
         }
 
         private void reach(long place, long many) {
-            int slot = (int) (place * MIX >>> 64 - SLOT_BITS);
+            int slot = (int) ((place * MIX) >>> (64 - SLOT_BITS));
             for (int tries = 0; tries < SLOTS && stamps[slot] == stamp; tries++) {
                 if (keys[slots[slot]] == place) {
                     ways[slots[slot]] += many;
                     return;
                 }
-                slot = slot + 1 & SLOTS - 1;
+                slot = (slot + 1) & (SLOTS - 1);
             }
             if (size < MAX_PLACES) {
                 stamps[slot] = stamp;
@@ -2151,29 +2151,30 @@ public final class Callorder {
         }
 
         static int cellOf(long place, int cell) {
-            return (int) (place >> CELL_BITS * cell) & MAX_CELL;
+            return (int) (place >> (CELL_BITS * cell)) & MAX_CELL;
         }
 
         private static long withCell(long place, int cell, int value) {
-            return place & ~((long) MAX_CELL << CELL_BITS * cell) | (long) value << CELL_BITS * cell;
+            int shift = CELL_BITS * cell;
+            return (place & ~((long) MAX_CELL << shift)) | ((long) value << shift);
         }
 
         static int doneOf(long place, int part) {
-            return (int) (place >> FIRST_PART + PART_BITS * part) & MAX_DONE;
+            return (int) (place >> (FIRST_PART + PART_BITS * part)) & MAX_DONE;
         }
 
         static int handOf(long place, int part) {
-            return (int) (place >> FIRST_PART + PART_BITS * part + DONE_BITS) & MAX_HAND;
+            return (int) (place >> (FIRST_PART + PART_BITS * part + DONE_BITS)) & MAX_HAND;
         }
 
         private static int bufferOf(long place, int part) {
-            return (int) (place >> FIRST_PART + PART_BITS * part + DONE_BITS + HAND_BITS) & MAX_BUFFER;
+            return (int) (place >> (FIRST_PART + PART_BITS * part + DONE_BITS + HAND_BITS)) & MAX_BUFFER;
         }
 
         private static long withPart(long place, int part, int done, int hand, int buffer) {
             int shift = FIRST_PART + PART_BITS * part;
-            long own = (long) buffer << DONE_BITS + HAND_BITS | hand << DONE_BITS | done;
-            return place & ~((1L << PART_BITS) - 1 << shift) | own << shift;
+            long own = ((long) buffer << (DONE_BITS + HAND_BITS)) | (hand << DONE_BITS) | done;
+            return (place & ~(((1L << PART_BITS) - 1) << shift)) | (own << shift);
         }
 
         /** The PLACE behind the next STEP of a PART; NONE, if it cannot be done. */

@@ -20,6 +20,8 @@ public final class OracleTest {
     private static int wrong = 0;
     private static int compared = 0;
     private static final int[] asked = new int[54];
+    /** How often each reason of a FAST way was told, by KIND; the first one tells that it fits. */
+    private static final int[][] reasons = new int[4][6];
 
     public static void main(String[] args) {
         int many = args.length > 0 ? Integer.parseInt(args[0]) : 400;
@@ -34,6 +36,8 @@ public final class OracleTest {
                 System.out.println("promise " + promise + " was never compared");
             }
         }
+        System.out.println("OracleTest: reasons told of registers " + Arrays.toString(reasons[0]) + ", of queues "
+                + Arrays.toString(reasons[1]) + ", of sets " + Arrays.toString(reasons[3]));
         System.out.println("OracleTest: " + compared + " answers compared, " + wrong + " differ");
         if (wrong > 0 || left > 0) {
             System.exit(1);
@@ -55,10 +59,13 @@ public final class OracleTest {
         private final Callorder bench = new Callorder();
         private final SlowBench slow = new SlowBench();
         private final StringBuilder told = new StringBuilder();
+        /** The least of the four VALUES that are given most. */
+        private final int window;
 
         Pair(int seed) {
             this.seed = seed;
             random = new Random(seed * 7919L + 17);
+            window = 1 + random.nextInt(6);
         }
 
         private int among(int n) {
@@ -94,7 +101,12 @@ public final class OracleTest {
         }
 
         void go() {
-            int style = among(5);
+            int style = among(7);
+            if (style >= 5) {
+                fastHistory(style == 5 ? 0 : 1);
+                askAll();
+                return;
+            }
             int rounds = 60 + among(60);
             for (int round = 0; round < rounds && wrong < 20; round++) {
                 change(style);
@@ -103,6 +115,41 @@ public final class OracleTest {
                 }
             }
             askAll();
+        }
+
+        /** Overlapping calls on a REGISTER or QUEUE, no VALUE given twice, mostly with values that were given as answers. */
+        private void fastHistory(int kind) {
+            same(2, "thing(" + kind + ")", () -> bench.thing(kind), () -> slow.thing(kind));
+            List<Integer> values = new ArrayList<>(List.of(1, 2, 3, 4, 5, 6, 7, 8, 9));
+            java.util.Collections.shuffle(values, random);
+            int unlike = 2 + among(3);
+            for (int time = 0; time < 18 + among(6); time++) {
+                int thread = among(3);
+                if (slow.openOf(thread) == null) {
+                    int op = among(5) < 3 ? 1 : 0;
+                    int value = op == 0 ? values.remove(0) : 0;
+                    if (values.isEmpty()) {
+                        return;
+                    }
+                    same(3, "begin(" + thread + ",0," + op + "," + value + ")", () -> bench.begin(thread, 0, op, value),
+                            () -> slow.begin(thread, 0, op, value));
+                } else {
+                    SlowCall open = slow.openOf(thread);
+                    List<Integer> given = new ArrayList<>(List.of(0, 0));
+                    for (SlowCall c : slow.calls) {
+                        if (c.op == 0) {
+                            given.add(c.value);
+                        }
+                    }
+                    int answer = among(25) == 0 ? near(0, 99) : open.op == 0 ? 0
+                            : among(unlike) > 0 ? likely(0, 1, 0, thread) : given.get(among(given.size()));
+                    same(4, "end(" + thread + "," + answer + ")", () -> bench.end(thread, answer), () -> slow.end(thread, answer));
+                }
+            }
+            for (int thread = 0; thread < 3; thread++) {
+                int t = thread;
+                same(4, "end(" + t + ",0)", () -> bench.end(t, 0), () -> slow.end(t, 0));
+            }
         }
 
         private void change(int style) {
@@ -222,7 +269,7 @@ public final class OracleTest {
             int op = near(0, SlowThing.ops(kind) - 1);
             int value = near(SlowThing.least(kind, op), SlowThing.most(kind, op));
             if (SlowThing.most(kind, op) > 3 && among(2) == 0) {
-                value = 1 + among(4);
+                value = window + among(4);
             }
             int v = value;
             if (among(4) > 0) {
@@ -290,6 +337,9 @@ public final class OracleTest {
                 same(29, "orders(" + part + ")", () -> bench.orders(part), () -> slow.orders(part));
                 same(33, "core(" + part + ")", () -> bench.core(part), () -> slow.core(part));
                 same(34, "fast(" + part + ")", () -> bench.fast(part), () -> slow.fast(part));
+                if (part >= 0 && part < things && slow.fast(part) >= 0) {
+                    reasons[slow.kindOf(part)][Math.max(0, slow.why(part, 0))]++;
+                }
                 for (int w = -1; w <= 3; w++) {
                     int what = w;
                     same(35, "why(" + part + "," + what + ")", () -> bench.why(part, what), () -> slow.why(part, what));

@@ -73,6 +73,7 @@ public final class PromiseTest {
         fastRegister();
         fastQueue();
         fastSet();
+        fastOfAllValues();
         promises();
         steps();
         plainRuns();
@@ -826,6 +827,34 @@ public final class PromiseTest {
         b.call(0, 0, 0, 7, 1);
         b.call(0, 0, 0, 7, 1);
         why(b, 0, 1, 7, -1);
+    }
+
+    private static void fastOfAllValues() {
+        for (int a = 1; a <= 9; a++) {
+            Callorder b = with(REGISTER, QUEUE, SET);
+            b.call(0, 0, 0, a, 0);
+            b.call(1, 0, 1, 0, 0);
+            why(b, 0, 3, 0, a);
+            b.call(0, 1, 0, a, 0);
+            b.call(1, 1, 1, 0, 0);
+            why(b, 1, 4, 3, -1);
+            b.call(0, 2, 0, a, 0);
+            why(b, 2, 1, a, -1);
+            for (int other = 1; other <= 9; other++) {
+                if (other != a) {
+                    Callorder c = with(REGISTER, QUEUE);
+                    c.call(0, 0, 0, a, 0);
+                    c.call(0, 0, 0, other, 0);
+                    c.call(1, 0, 1, 0, a);
+                    c.call(1, 0, 1, 0, other);
+                    why(c, 0, 3, Math.min(a, other), Math.max(a, other));
+                    c.call(0, 1, 0, a, 0);
+                    c.call(0, 1, 0, other, 0);
+                    c.call(1, 1, 1, 0, other);
+                    why(c, 1, 3, a, other);
+                }
+            }
+        }
     }
 
     private static void promises() {
