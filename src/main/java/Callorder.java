@@ -1920,26 +1920,37 @@ public final class Callorder {
         /** A BUFFER without VALUES: only the 1 ahead of them. */
         private static final int EMPTY = 1;
         private static final int MODELS = 3;
-        /** The greatest program known has 5152 PLACES, and some 230 OUTCOMES. */
-        private static final int MAX_PLACES = 16384;
-        private static final int SLOTS = 2 * MAX_PLACES;
-        private static final int SLOT_BITS = 15;
+        /**
+         * The rows begin small and become twice as long when they are full. Counting what each PART can have in
+         * its HAND and BUFFER, and who can have come last to each CELL, no PROGRAM has more than 553399 PLACES
+         * and 294912 OUTCOMES (the greatest ones known: 5152 and 230), so the rows never come to their ends.
+         */
+        private static final int FIRST_PLACES = 1024;
+        private static final int MOST_PLACES = 1 << 20;
+        /** Each PART can do a STEP and a FLUSH. */
+        private static final int MOST_NEXT = 2 * Program.PARTS;
+        private static final int FIRST_ENDS = 128;
+        private static final int MOST_ENDS = 1 << 19;
+        private static final int FIRST_SLOT_BITS = 11;
         private static final long MIX = 0x9E3779B97F4A7C15L;
-        private static final int MAX_ENDS = 4096;
         private static final int MAX_MOVES = 9;
 
         final Program program;
         private int version;
         private final boolean[] isKnown = new boolean[MODELS];
-        private final long[] keys = new long[MAX_PLACES];
+        private long[] keys = new long[FIRST_PLACES];
         /** How many ways lead to each PLACE from the beginning. */
-        private final long[] ways = new long[MAX_PLACES];
+        private long[] ways = new long[FIRST_PLACES];
         private int size = 0;
-        private final int[] slots = new int[SLOTS];
+        /** Twice as many as there is room for PLACES, so that a free one is found soon. */
+        private int[] slots = new int[1 << FIRST_SLOT_BITS];
         /** A slot counts only if it bears the number of this search: so none need be cleared. */
-        private final int[] stamps = new int[SLOTS];
+        private int[] stamps = new int[1 << FIRST_SLOT_BITS];
+        private int slotBits = FIRST_SLOT_BITS;
         private int stamp = 0;
-        private final int[][] ends = new int[MODELS][MAX_ENDS];
+        /** The OUTCOMES of MODEL after MODEL, by rising numbers, with this much room for each. */
+        private int[] ends = new int[MODELS * FIRST_ENDS];
+        private int endRoom = FIRST_ENDS;
         private final int[] endCounts = new int[MODELS];
         private final int[] stuckCounts = new int[MODELS];
         private final int[] placeCounts = new int[MODELS];
@@ -1959,22 +1970,22 @@ public final class Callorder {
         /** The OUTCOME at a place of them, by rising numbers; NONE behind the last one. */
         int endAt(int model, int place) {
             explore(model);
-            return place >= 0 && place < endCounts[model] ? ends[model][place] : NONE;
+            return place >= 0 && place < endCounts[model] ? ends[model * endRoom + place] : NONE;
         }
 
         boolean hasEnd(int model, int end) {
             explore(model);
             int low = 0;
             int high = endCounts[model];
-            for (int tries = 0; tries < MAX_ENDS && low < high; tries++) {
+            for (int tries = 0; tries < MOST_ENDS && low < high; tries++) {
                 int middle = (low + high) / 2;
-                if (ends[model][middle] < end) {
+                if (ends[model * endRoom + middle] < end) {
                     low = middle + 1;
                 } else {
                     high = middle;
                 }
             }
-            return low < endCounts[model] && ends[model][low] == end;
+            return low < endCounts[model] && ends[model * endRoom + low] == end;
         }
 
         int countStuck(int model) {
@@ -2023,7 +2034,10 @@ public final class Callorder {
             stamp++;
             size = 0;
             reach(start(), 1);
-            for (int place = 0; place < size && place < MAX_PLACES; place++) {
+            for (int place = 0; place < size && place < MOST_PLACES; place++) {
+                if (size + MOST_NEXT > keys.length) {
+                    growPlaces();
+                }
                 boolean isMoved = false;
                 for (int part = 0; part < Program.PARTS; part++) {
                     long next = stepped(keys[place], part, model);
@@ -2045,20 +2059,49 @@ public final class Callorder {
         }
 
         private void reach(long place, long many) {
-            int slot = (int) ((place * MIX) >>> (64 - SLOT_BITS));
-            for (int tries = 0; tries < SLOTS && stamps[slot] == stamp; tries++) {
-                if (keys[slots[slot]] == place) {
-                    ways[slots[slot]] += many;
-                    return;
-                }
-                slot = (slot + 1) & (SLOTS - 1);
+            int slot = slotOf(place);
+            if (stamps[slot] == stamp) {
+                ways[slots[slot]] += many;
+                return;
             }
-            if (size < MAX_PLACES) {
+            if (size < keys.length) {
                 stamps[slot] = stamp;
                 slots[slot] = size;
                 keys[size] = place;
                 ways[size] = many;
                 size++;
+            }
+        }
+
+        /** Where the table has a PLACE, or is free for it. */
+        private int slotOf(long place) {
+            int slot = (int) ((place * MIX) >>> (64 - slotBits));
+            for (int tries = 0; tries < slots.length; tries++) {
+                if (stamps[slot] != stamp || keys[slots[slot]] == place) {
+                    return slot;
+                }
+                slot = (slot + 1) & (slots.length - 1);
+            }
+            return slot;
+        }
+
+        private void growPlaces() {
+            if (keys.length >= MOST_PLACES) {
+                return;
+            }
+            long[] moreKeys = new long[2 * keys.length];
+            long[] moreWays = new long[2 * keys.length];
+            System.arraycopy(keys, 0, moreKeys, 0, keys.length);
+            System.arraycopy(ways, 0, moreWays, 0, keys.length);
+            keys = moreKeys;
+            ways = moreWays;
+            slotBits++;
+            slots = new int[1 << slotBits];
+            stamps = new int[1 << slotBits];
+            for (int place = 0; place < size; place++) {
+                int slot = slotOf(keys[place]);
+                stamps[slot] = stamp;
+                slots[slot] = place;
             }
         }
 
@@ -2078,16 +2121,32 @@ public final class Callorder {
 
         /** Puts an OUTCOME among the others; it is a new one, as PLACES with all done differ only by it. */
         private void keepEnd(int model, int end) {
-            int place = endCounts[model];
-            if (place >= MAX_ENDS) {
+            if (endCounts[model] >= endRoom) {
+                growEnds();
+            }
+            if (endCounts[model] >= endRoom) {
                 return;
             }
-            while (place > 0 && ends[model][place - 1] > end) {
-                ends[model][place] = ends[model][place - 1];
-                place--;
+            int first = model * endRoom;
+            int index = first + endCounts[model];
+            while (index > first && ends[index - 1] > end) {
+                ends[index] = ends[index - 1];
+                index--;
             }
-            ends[model][place] = end;
+            ends[index] = end;
             endCounts[model]++;
+        }
+
+        private void growEnds() {
+            if (endRoom >= MOST_ENDS) {
+                return;
+            }
+            int[] more = new int[2 * ends.length];
+            for (int model = 0; model < MODELS; model++) {
+                System.arraycopy(ends, model * endRoom, more, 2 * model * endRoom, endRoom);
+            }
+            ends = more;
+            endRoom = 2 * endRoom;
         }
 
         private static int endOf(long place) {

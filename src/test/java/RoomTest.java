@@ -23,7 +23,7 @@ public final class RoomTest {
         new Callorder().digest();
         long before = taken();
         Callorder bench = new Callorder();
-        below("an object", taken() - before, 1_000_000);
+        below("an object", taken() - before, 300_000);
         int[][] steps = {{1, 0, 0}, {0, 0, 9}, {0, 0, 5}, {1, 0, 0}, {0, 0, 7}, {0, 0, 4}, {6, 0, 8}, {0, 0, 1}, {0, 0, 6}};
         for (int i = 0; i < 9; i++) {
             bench.step(i / 3, steps[i][0], steps[i][1], steps[i][2]);
@@ -36,7 +36,8 @@ public final class RoomTest {
             bench.unstep(0);
             bench.isSound();
         }
-        below("512 calls with digests", taken() - before, 200_000);
+        // the rows for PLACES grow three times, once for all calls that follow
+        below("512 calls with digests", taken() - before, 600_000);
         before = taken();
         for (int i = 0; i < MANY; i++) {
             bench.found(i % 7, i % 4, 8);
