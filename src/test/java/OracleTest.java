@@ -438,7 +438,7 @@ public final class OracleTest {
     // ------------------------------------------------------------------------------------------------
     // the slow bench
 
-    private static final class SlowCall {
+    static final class SlowCall {
         int thread;
         int thing;
         int op;
@@ -448,7 +448,7 @@ public final class OracleTest {
         int answer = -1;
     }
 
-    private static final class SlowThing {
+    static final class SlowThing {
         final int kind;
         int number = 0;
         int owner = -1;
@@ -552,7 +552,7 @@ public final class OracleTest {
         }
     }
 
-    private static final class SlowBench {
+    static final class SlowBench {
         final List<Integer> kinds = new ArrayList<>();
         final List<SlowCall> calls = new ArrayList<>();
         int moments = 0;
