@@ -1923,7 +1923,8 @@ public final class Callorder {
         /**
          * The rows begin small and become twice as long when they are full. Counting what each PART can have in
          * its HAND and BUFFER, and who can have come last to each CELL, no PROGRAM has more than 553399 PLACES
-         * and 294912 OUTCOMES (the greatest ones known: 5152 and 230), so the rows never come to their ends.
+         * and 294912 OUTCOMES (BoundTest counts; the greatest ones known have 5152 and 230), so there is room
+         * for all of them.
          */
         private static final int FIRST_PLACES = 1024;
         private static final int MOST_PLACES = 1 << 20;

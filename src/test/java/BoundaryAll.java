@@ -12,6 +12,7 @@ final class BoundaryAll extends Boundary {
     static void all() {
         fiveHundredTwelve();
         askingChangesNothing();
+        changingIsSeenAtOnce();
         throwingChangesNothing();
         firstNamed();
         knock();
@@ -99,6 +100,41 @@ final class BoundaryAll extends Boundary {
                 QUESTIONS.get(other).apply(b);
                 is(question.apply(b), due);
             }
+        }
+    }
+
+    /** Whatever changes something: all that is asked next is as on a bench that was never asked before. */
+    private static void changingIsSeenAtOnce() {
+        says("What one asks for changes nothing.");
+        List<Function<Callorder, Object>> changes = List.of(b -> b.thing(SET), b -> b.begin(0, 0, 0, 3), b -> b.begin(1, 1, 1, 0), b -> b.end(2, 1),
+                b -> b.end(2, 0), b -> b.call(0, 1, 1, 0, 0), b -> b.call(1, 0, 0, 1, 0), b -> b.retell(1, 1), b -> b.retell(3, 0), b -> b.forget(0),
+                b -> b.forget(1), b -> b.forget(4), b -> b.wipe(false), b -> b.wipe(true), b -> b.tape(0, 9), b -> b.tape(1, 4095),
+                b -> b.trial(QUEUE, 2, 7), b -> b.trial(REGISTER, 1, 4095), b -> b.write(1, 4), b -> b.read(0), b -> b.deliver(0), b -> b.lose(1),
+                b -> b.repeat(0), b -> b.step(2, 2, 0, 0), b -> b.unstep(0), b -> b.unstep(2), Callorder::knock);
+        for (Function<Callorder, Object> change : changes) {
+            Callorder due = some();
+            change.apply(due);
+            // each question alone, asked ahead and behind
+            for (Function<Callorder, Object> question : QUESTIONS) {
+                Callorder b = some();
+                answer(b, question);
+                change.apply(b);
+                is(answer(b, question), answer(due, question));
+            }
+            Callorder asked = some();
+            for (Function<Callorder, Object> question : QUESTIONS) {
+                answer(asked, question);
+            }
+            change.apply(asked);
+            is(Scene.all(asked), Scene.all(due));
+        }
+    }
+
+    private static Object answer(Callorder b, Function<Callorder, Object> question) {
+        try {
+            return question.apply(b);
+        } catch (IndexOutOfBoundsException | IllegalStateException e) {
+            return e.getClass();
         }
     }
 

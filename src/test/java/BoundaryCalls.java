@@ -415,6 +415,15 @@ final class BoundaryCalls extends Boundary {
         is(only.drawn(1), "..");
         is(only.call(1, 0, 1, 0, 0), 0);
         is(only.ofCall(0, 4), 2);
+        // a CALL takes all that is told of it along, its THING, too
+        Callorder things = play(things(REGISTER, SET, CELL), "0:READ=9 1:1.REMOVE8=7 2[2.SWAP65 ~0");
+        is(Scene.texts(things), "T1 SET1.REMOVE(8) = 7 / T2 CELL2.SWAP(65) = ?");
+        int[][] due = {{1, 1, 1, 8, 2, 3, 7}, {2, 2, 2, 65, 4, NONE, NONE}};
+        for (int call = 0; call <= 1; call++) {
+            for (int what = 0; what <= 6; what++) {
+                is(things.ofCall(call, what), due[call][what]);
+            }
+        }
         // all that follows of the CALLS is told anew
         Callorder again = play(QUEUE, "0:PUT1=0 1:TAKE=2 1:TAKE=1");
         is(again.fits(0), false);

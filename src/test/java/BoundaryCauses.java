@@ -68,6 +68,11 @@ final class BoundaryCauses extends Boundary {
         causes(play(SET, "0:ADD1=1 1:HAS1=1"), 0);
         causes(play(SET, "0:ADD1=1 1:REMOVE1=1"), 0);
         causes(play(LOCK, "0:TAKE=1 1:FREE=1"), 0);
+        // 0 is no VALUE that was given, and a READ or TAKE gives none
+        causes(play(REGISTER, "0:READ=0"), 0);
+        causes(play(QUEUE, "0:TAKE=0"), 0);
+        causes(play(STACK, "0:TAKE=0 1:PUT5=0"), 0);
+        causes(play(REGISTER, "0[READ 1:READ=0"), 0);
         // a WRITE that was answered the VALUE is no READ
         causes(play(REGISTER, "0:WRITE5=0 1:WRITE6=5"), 0);
     }

@@ -336,6 +336,8 @@ final class BoundaryFast extends Boundary {
         told(SET, "0:ADD3=1 1:HAS4=0 1:HAS3=0", 1, 3, NONE);
         told(play(things(SET, SET), "0:ADD3=1 1:1.HAS3=0"), 1, NONE, NONE, NONE);
         told(play(things(SET, SET), "0:ADD3=1 1:1.HAS3=1"), 1, 1, 3, NONE);
+        told(play(things(SET, SET), "0:ADD3=1 1:1.HAS3=1"), 0, NONE, NONE, NONE);
+        told(play(things(SET, REGISTER), "0:ADD3=1 1:1.WRITE3=9"), 0, NONE, NONE, NONE);
     }
 
     private static void wrongAnswers() {

@@ -556,7 +556,39 @@ final class BoundaryRuns extends Boundary {
         for (int part : new int[] {-1, 3, Integer.MIN_VALUE, Integer.MAX_VALUE}) {
             refuses(INDEX, () -> program("LOAD 1", "LOAD 1, FENCE", ""), x -> x.unstep(part));
         }
-        // what follows of the PROGRAM is told anew
+        // what follows of the PROGRAM is told anew, each question asked alone
+        Callorder alike = program("WRITE 0 1", "LOAD 0");
+        is(alike.unlike(), 2);
+        alike.step(2, 1, 0, 0);
+        is(alike.unlike(), 4);
+        alike.unstep(1);
+        is(alike.unlike(), 2);
+        alike.unstep(0);
+        is(alike.unlike(), 1);
+        for (int model = 0; model <= 1; model++) {
+            Callorder stuck = program("TAKE 0, TAKE 0");
+            is(stuck.stuck(model), 1);
+            stuck.step(1, 5, 0, 0);
+            is(stuck.stuck(model), 2);
+            stuck.unstep(0);
+            is(stuck.stuck(model), 0);
+            Callorder fenced = program("WRITE 0 1", "WRITE 0 2");
+            is(fenced.fenced(), 2);
+            fenced.step(2, 0, 0, 3);
+            is(fenced.fenced(), 3);
+            fenced.unstep(0);
+            fenced.unstep(1);
+            is(fenced.fenced(), 1);
+            Callorder runs = program("WRITE 0 1", "WRITE 0 1");
+            is(runs.runs(model), model == 0 ? 2 : 6);
+            runs.unstep(0);
+            is(runs.runs(model), 1);
+            is(runs.places(model), model == 0 ? 2 : 3);
+            is(runs.can(model, 100000), true);
+            runs.unstep(1);
+            is(runs.can(model, 100000), false);
+            is(runs.outcome(model, 0), 0);
+        }
         Callorder b = program("WRITE 0 1", "LOAD 0");
         is(b.outcomes(0), 2);
         is(b.unlike(), 2);
@@ -816,6 +848,16 @@ final class BoundaryRuns extends Boundary {
             is(b.fenced(), slow.fenced());
             is(b.fenced(), b.outcomes(0));
             is(b.isSound(), true);
+            // what was told of the smaller MODEL stays when the greater one has been gone through behind it
+            Callorder other = new Callorder();
+            put(other, steps);
+            is(other.outcomes(0), slow.outcomes(0));
+            is(other.fenced(), slow.fenced());
+            is(other.outcomes(1), slow.outcomes(1));
+            for (int place = 0; place <= slow.outcomes(0); place++) {
+                is(other.outcome(0, place), slow.outcome(0, place));
+            }
+            is(other.can(0, slow.outcome(0, 0)), true);
         }
     }
 

@@ -222,6 +222,15 @@ final class BoundarySeeds extends Boundary {
         // one that is STUCK calls no more
         calls("TAKE 0, TAKE 0", "T0 CELL0.SWAP(1) = 1");
         calls("WRITE 0 5, TAKE 0, LOAD 0", "T0 CELL0.WRITE(5) = 0");
+        // an OP that has no use for a VALUE has 0
+        int[][] told = {{1, 1, 0, 7, 0, 1, 0}, {1, 1, 1, 0, 2, 3, 7}, {1, 2, 2, 1, 4, 5, 1}};
+        Callorder numbers = program("", "WRITE 1 7, LOAD 1, TAKE 2");
+        numbers.tape(0, 0);
+        for (int call = 0; call < 3; call++) {
+            for (int what = 0; what <= 6; what++) {
+                is(numbers.ofCall(call, what), told[call][what]);
+            }
+        }
         // as many as there can be
         Callorder b = program("WRITE 0 1, WRITE 1 2, WRITE 2 3", "LOAD 0, LOAD 1, LOAD 2", "SWAP 0 9, STORE 1, SWAP 2 0");
         for (int model = 0; model <= 1; model++) {
@@ -251,6 +260,7 @@ final class BoundarySeeds extends Boundary {
             for (int model = 0; model <= 1; model++) {
                 is(b.tape(model, seed), slow.tape(model, seed));
                 is(Scene.texts(b), texts(slow));
+                sameNumbers(b, slow);
             }
         }
     }
@@ -261,6 +271,15 @@ final class BoundarySeeds extends Boundary {
             out.append(call == 0 ? "" : " / ").append(slow.text(call));
         }
         return out.toString();
+    }
+
+    private static void sameNumbers(Callorder b, OracleTest.SlowBench slow) {
+        is(b.bench(3), slow.bench(3));
+        for (int call = 0; call < slow.bench(1); call++) {
+            for (int what = 0; what <= 6; what++) {
+                is(b.ofCall(call, what), slow.ofCall(call, what));
+            }
+        }
     }
 
     private static void tape() {
@@ -396,16 +415,14 @@ final class BoundarySeeds extends Boundary {
                 // each SEED with some KIND and FAULT, each KIND and FAULT with many SEEDS, the first and the last one with all
                 for (int seed = 0; seed < SEEDS; seed++) {
                     if ((seed + kind * 4 + fault) % 7 == 0 || seed == 0 || seed == SEEDS - 1) {
-                        if (asked % 30 == 0) {
+                        if (asked % 5 == 0) {
                             b = new Callorder();
                         }
                         asked++;
                         OracleTest.SlowBench slow = new OracleTest.SlowBench();
                         is(b.trial(kind, fault, seed), slow.trial(kind, fault, seed));
                         is(Scene.texts(b), texts(slow));
-                        is(b.drawn(0), slow.drawn(0));
-                        is(b.drawn(1), slow.drawn(1));
-                        is(b.drawn(2), slow.drawn(2));
+                        sameNumbers(b, slow);
                     }
                 }
             }

@@ -209,6 +209,12 @@ final class BoundaryStore extends Boundary {
         b.read(2);
         b.read(1);
         is(Scene.texts(b), "T0 REGISTER1.READ() = ? / T2 REGISTER0.WRITE(9) = 0 / T2 REGISTER0.READ() = 9 / T1 REGISTER0.READ() = 0");
+        int[][] told = {{2, 0, 0, 9, 1, 2, 0}, {2, 0, 1, 0, 3, 4, 9}, {1, 0, 1, 0, 5, 6, 0}};
+        for (int call = 0; call < 3; call++) {
+            for (int what = 0; what <= 6; what++) {
+                is(b.ofCall(call + 1, what), told[call][what]);
+            }
+        }
         is(b.drawn(0), "[------");
         is(b.drawn(1), ".....[]");
         is(b.drawn(2), ".[][]..");
